@@ -4,7 +4,7 @@ import java.util.HashMap;
 import java.util.Map;
 import java.util.Random;
 
-/** Random runs of calls, each answer held against the model's; most rules are told what fits, where the model finds it. */
+/** Random runs of calls, each answer held against the model's; most rules are told what the model finds to fit. */
 public final class ModelTest {
     /** The calls, a letter for each argument: term, formula, proof, variable, label, number, input, boolean, way. */
     private static final String[] CALLS = {
@@ -188,14 +188,14 @@ public final class ModelTest {
         int revealed = told("reveal", outer, shown, 1);
         int step = told("generalize", told("suppose", revealed, 0, body), x);
         int program = told("induct", first, step, all);
-        if (System.getenv("STORY") != null) System.out.println(story);
         boolean isRight = call("run", "pi", new Object[] {program, random.nextInt(31)});
         isRight &= call("steps", "", new Object[] {});
         return isRight;
     }
 
     private Model.F formula(int f) {
-        return f >= 0 && f < model.formulas.size() ? model.formulas.get(f) : new Model.F('=', 0, null, null, null, null);
+        boolean isThere = f >= 0 && f < model.formulas.size();
+        return isThere ? model.formulas.get(f) : new Model.F('=', 0, null, null, null, null);
     }
 
     private int secondTerm(int f) {

@@ -608,7 +608,7 @@ public final class WitnessRow {
         proofs.gather(proof, closedLabel);
     }
 
-    /** Gathers the open labels of two proofs, of the second one without a label that is closed; false if they differ. */
+    /** Gathers the open labels of two proofs, but for one closed in the second; false if they do not agree. */
     private boolean gatherTwo(int proof, int other, int closedLabel) {
         proofs.gatherNothing();
         return proofs.gather(proof, NONE) && proofs.gather(other, closedLabel);
@@ -735,6 +735,12 @@ public final class WitnessRow {
             }
         }
         return true;
+    }
+
+    private static void unmark(boolean[] marks) {
+        for (int i = 0; i < marks.length; i++) {
+            marks[i] = false;
+        }
     }
 
     /** Terms multiplied out: for each a row of unlike products, each by its code and the number in front of it. */
@@ -1133,7 +1139,7 @@ public final class WitnessRow {
 
         /** Whether a variable of the term would be bound, if it came in place of the variable. */
         boolean wouldBind(int formula, int variable, int term) {
-            Arrays.fill(reached, false);
+            unmark(reached);
             reach(formula);
             for (int at = told - 1; at >= 0; at--) {
                 if (reached[at] && hasFree(at, variable) && !isComparison(kinds[at])) {
@@ -1335,7 +1341,7 @@ public final class WitnessRow {
 
         /** Counts the proofs that a proof uses, or only the detours among them. */
         int countUsed(int proof, boolean isOfDetours) {
-            Arrays.fill(reached, false);
+            unmark(reached);
             reach(proof);
             int count = 0;
             for (int at = told - 1; at >= 0; at--) {
@@ -1401,15 +1407,15 @@ public final class WitnessRow {
 
         /** The number that a term has, NONE if one above 1000000 comes. */
         int amountOf(int term) {
-            Arrays.fill(neededTerms, false);
+            unmark(neededTerms);
             need(neededTerms, term);
             return reckonTerms() ? amountAt(term) : NONE;
         }
 
         /** 1 if a plain formula is true, 0 if not, NONE if a number above 1000000 comes in any of its terms. */
         int truthOf(int formula) {
-            Arrays.fill(neededTerms, false);
-            Arrays.fill(neededFormulas, false);
+            unmark(neededTerms);
+            unmark(neededFormulas);
             need(neededFormulas, formula);
             for (int at = MOST - 1; at >= 0; at--) {
                 if (neededFormulas[at]) {
