@@ -158,7 +158,11 @@ public final class TermsTest {
         Check.unsupported("nor is anything less", () -> row.fact(row.less(zero, over)));
         Check.unsupported("nor is it less", () -> row.fact(row.less(over, row.plus(million, million))));
         Check.unsupported("nor than what is not too great", () -> row.fact(row.less(over, million)));
-        Check.due("a million is less than that and x", 0, () -> row.fact(row.less(zero, million)));
+        Check.due("nothing is less than a million", 0, () -> row.fact(row.less(zero, million)));
+        int three = row.plus(row.plus(x, row.number(2)), row.variable(1));
+        Check.unsupported("x + 2 + y < x + 3", () -> row.fact(row.less(three, row.plus(x, row.number(3)))));
+        Check.due("x + 2 + y < x + 3 + y + y", 1, () -> row.fact(row.less(three,
+                row.plus(row.plus(row.plus(x, row.number(3)), row.variable(1)), row.variable(1)))));
     }
 
     /** (1 + a + b + c) to the third is 20 products; times (d + e + 1) it is 60, and one more is too many. */
