@@ -104,6 +104,9 @@ public final class FaceTest {
         for (Class<?> inside : WitnessRow.class.getDeclaredClasses()) {
             int modifiers = inside.getModifiers();
             Check.due(inside + " is static", true, () -> Modifier.isStatic(modifiers) && !Modifier.isPublic(modifiers));
+            for (Method method : inside.getDeclaredMethods()) {
+                Check.due("a " + method.getName() + " of " + inside, false, () -> names.contains(method.getName()));
+            }
         }
         Check.due("final", true, () -> Modifier.isFinal(WitnessRow.class.getModifiers()));
     }

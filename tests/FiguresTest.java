@@ -29,6 +29,25 @@ public final class FiguresTest {
         Check.due("sound", true, row::isSound);
     }
 
+    /** The share of each number of closed proofs among 60, and the mean of depths 1 and 2. */
+    private static void sixty() {
+        for (int closed = 0; closed <= 60; closed++) {
+            WitnessRow row = new WitnessRow();
+            int same = row.equal(row.variable(0), row.variable(0));
+            int fact = closed > 0 ? row.fact(same) : row.assume(0, same);
+            int told = 1;
+            for (; told < Math.max(closed, 1); told++) {
+                row.suppose(fact, 5, same);
+            }
+            for (; told < 60; told++) {
+                row.assume(5, same);
+            }
+            int deeper = Math.max(closed, 1) - 1;
+            Check.due("closed of 60: " + closed, (float) closed / 60f, row::closedShare);
+            Check.due("two deep of 60: " + deeper, (60.0 + deeper) / 60.0, row::meanDepth);
+        }
+    }
+
     private static float firstIsClosed() {
         WitnessRow row = new WitnessRow();
         int same = row.equal(row.number(1), row.number(1));
@@ -116,6 +135,7 @@ public final class FiguresTest {
     public static void main(String[] args) {
         empty();
         shares();
+        sixty();
         checksum();
         questions();
         sound();

@@ -120,8 +120,35 @@ public final class ProofsTest {
         figures(row, "specialize of induct", row.specialize(induction, 0), 6, 5, 0);
     }
 
+    /** 60 proofs, one above the other: the last one uses all, and every second one is a detour. */
+    private static void fullRow() {
+        WitnessRow row = row();
+        int falsehood = row.equal(2, 3);
+        int last = row.assume(0, falsehood);
+        for (int count = 1; count < 60; count++) {
+            last = row.absurd(last, falsehood);
+            int proof = last;
+            figures(row, "absurd over " + count, proof, count + 1, count + 1, 0);
+            Check.due("openLabels of absurd over " + count, 1, () -> row.openLabels(proof));
+        }
+        figures(row, "the last one", 59, 60, 60, 0);
+        figures(row, "the first one", 0, 1, 1, 0);
+        WitnessRow other = row();
+        int part = other.fact(2);
+        for (int count = 1; count < 59; count += 2) {
+            part = other.part(other.both(part, part), count % 4 == 1);
+            figures(other, "part over " + count, part, count + 2, count + 2, (count + 1) / 2);
+        }
+        other.both(part, part);
+        figures(other, "both at last", 59, 60, 60, 29);
+        Check.due("meanDepth of 1 to 60", 30.5, other::meanDepth);
+        Check.due("closedShare of closed ones", 1.0f, other::closedShare);
+        Check.due("closedShare of open ones", 0.0f, row::closedShare);
+    }
+
     public static void main(String[] args) {
         labels();
+        fullRow();
         shared();
         detours();
         others();
